@@ -148,6 +148,8 @@ public final class ChipsTest {
         due.same("the pins", x.chip(0, 3), 2);
         due.same("setPins(1, 255)", x.setPins(1, 255), 0);
         due.same("the pins of eight cells", x.chip(1, 3), 255);
+        due.same("setPins(0, 0)", x.setPins(0, 0), 2);
+        due.same("the pins", x.chip(0, 3), 0);
         due.same("the data register does not change", x.chip(1, 8), 0);
         due.same("the outputs do not change", x.chip(1, 4), 0);
     }

@@ -9,6 +9,7 @@ public final class HistoryTest {
         otherCallsAreNotRecorded();
         snapshot();
         snapshotAndUndo();
+        keptIdentities();
         count();
         bypassed();
         due.end();
@@ -175,6 +176,27 @@ public final class HistoryTest {
         due.same("restore() again", x.restore(), 1);
     }
 
+    private static void keptIdentities() {
+        ScanChain x = new ScanChain();
+        x.add(2, 11, 1);
+        x.add(2, 13, 1);
+        x.identify();
+        x.save();
+        x.take(0);
+        x.add(2, 15, 1);
+        x.identify();
+        due.same("the latest reading", x.found(0) * 1000 + x.found(1), 15013);
+        due.promise("15 undo");
+        x.undo();
+        due.same("the reading behind undo", x.found(0) * 1000 + x.found(1), 13011);
+        x.identify();
+        due.promise("17 restore");
+        x.restore();
+        due.same("the reading behind restore", x.found(0) * 1000 + x.found(1), 13011);
+        x.undo();
+        due.same("the reading behind undo of restore", x.found(0) * 1000 + x.found(1), 15013);
+    }
+
     private static void count() {
         due.promise("19 count");
         ScanChain x = new ScanChain();
@@ -207,6 +229,9 @@ public final class HistoryTest {
         due.sameFloat("bypassed() without chips", x.bypassed(), 0.0f);
         x.add(3, 9, 1);
         due.sameFloat("an identity is no bypass", x.bypassed(), 0.0f);
+        ScanChain one = new ScanChain();
+        one.add(3, 0, 1);
+        due.sameFloat("one of one", one.bypassed(), 1.0f);
         x.add(3, 0, 1);
         due.sameFloat("one of two", x.bypassed(), 0.5f);
         x.add(3, 0, 1);

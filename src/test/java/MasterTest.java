@@ -14,6 +14,7 @@ public final class MasterTest {
         badExchanges();
         exchange();
         exchangeFromEveryState();
+        fullChain();
         due.end();
     }
 
@@ -239,6 +240,22 @@ public final class MasterTest {
                 due.same("ifExchanged(" + place + ", 182) in " + state, foretold, got);
                 x.restore();
             }
+        }
+    }
+
+    private static void fullChain() {
+        ScanChain x = new ScanChain();
+        for (int place = 0; place < 6; place++) {
+            x.add(2 + place % 5, 0, 8 - place);
+            x.setPins(place, 0x95);
+        }
+        for (int place = 0; place < 6; place++) {
+            due.promise("9 load");
+            due.same("load(" + place + ", 0) of six", x.load(place, 0), 8 - place);
+            due.same("the other chips are bypassed", x.count(5), 5 + 8 - place);
+            due.promise("10 exchange");
+            due.same("exchange(" + place + ", 255) of six", x.exchange(place, 255), 0x95 & (1 << 8 - place) - 1);
+            due.same("the outputs", x.chip(place, 4), (1 << 8 - place) - 1);
         }
     }
 
