@@ -566,7 +566,15 @@ public final class ScanChain {
         /** Makes a clock and answers its output. */
         int tick(int mode, int input) {
             int output = outputWith(input);
-            work(input);
+            if (state == Controller.SHIFT_DATA) {
+                shiftAllData(input);
+            } else if (state == Controller.SHIFT_CODE) {
+                shiftAllCodes(input);
+            } else {
+                for (int place = 0; place < size; place++) {
+                    workOf(chips[place]);
+                }
+            }
             state = Controller.next(state, mode);
             clocks++;
             return output;
@@ -583,18 +591,7 @@ public final class ScanChain {
             return state == Controller.SHIFT_DATA ? last.dataOutput() : last.codeOutput();
         }
 
-        private void work(int input) {
-            if (state == Controller.SHIFT_DATA) {
-                shiftAllData(input);
-            } else if (state == Controller.SHIFT_CODE) {
-                shiftAllCodes(input);
-            } else {
-                for (int place = 0; place < size; place++) {
-                    workOf(chips[place]);
-                }
-            }
-        }
-
+        /** The work of the states that do not shift. */
         private void workOf(Chip chip) {
             switch (state) {
                 case Controller.RESET:
@@ -674,12 +671,13 @@ public final class ScanChain {
             return chain.identityCount;
         }
 
+        /** An identity is odd: if its lowest bit is 0, the chip has none, and no other bits follow. */
         private static int readIdentity(Chain chain) {
-            if (chain.tick(0, 1) == 0) {
-                return 0;
+            int identity = chain.tick(0, 1);
+            for (int bit = 1; identity != 0 && bit < IDENTITY_BITS; bit++) {
+                identity |= chain.tick(0, 1) << bit;
             }
-            int otherBits = IDENTITY_BITS - 1;
-            return 1 | (shiftThrough(chain, allOnes(otherBits), otherBits, false) << 1);
+            return identity;
         }
 
         static void loadInstruction(Chain chain, int place, int instruction) {

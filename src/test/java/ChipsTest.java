@@ -58,21 +58,21 @@ public final class ChipsTest {
         due.same("add(2, 0, 1)", x.add(2, 0, 1), 0);
         due.same("add(6, 253, 8)", x.add(6, 253, 8), 1);
         due.same("add(3, 1, 5)", x.add(3, 1, 5), 2);
-        due.same("chip 0", told(x, 0), "2 0 1 0 0 0 3 0 0 1");
-        due.same("chip 1", told(x, 1), "6 253 8 0 0 0 1 0 0 8");
-        due.same("chip 2", told(x, 2), "3 1 5 0 0 0 1 0 0 8");
+        due.same("chip 0", View.chip(x, 0), "2 0 1 0 0 0 3 0 0 1");
+        due.same("chip 1", View.chip(x, 1), "6 253 8 0 0 0 1 0 0 8");
+        due.same("chip 2", View.chip(x, 2), "3 1 5 0 0 0 1 0 0 8");
         due.same("add(6, 0, 8)", x.add(6, 0, 8), 3);
-        due.same("chip 3", told(x, 3), "6 0 8 0 0 0 63 0 0 1");
+        due.same("chip 3", View.chip(x, 3), "6 0 8 0 0 0 63 0 0 1");
         due.same("add(4, 0, 2)", x.add(4, 0, 2), 4);
         due.same("add(5, 0, 3)", x.add(5, 0, 3), 5);
-        due.same("chip 5", told(x, 5), "5 0 3 0 0 0 31 0 0 1");
+        due.same("chip 5", View.chip(x, 5), "5 0 3 0 0 0 31 0 0 1");
         before = View.of(x);
         due.same("a bad seventh add", x.add(2, 2, 1), -2);
         due.same("a seventh add", x.add(2, 0, 1), -3);
         due.same("a refused seventh add", View.of(x), before);
         x.take(0);
         due.same("add behind a take", x.add(2, 9, 4), 5);
-        due.same("chip 5 behind a take", told(x, 5), "2 9 4 0 0 0 1 0 0 8");
+        due.same("chip 5 behind a take", View.chip(x, 5), "2 9 4 0 0 0 1 0 0 8");
     }
 
     private static void addInAnyState() {
@@ -86,7 +86,7 @@ public final class ChipsTest {
         x.move(11);
         x.take(0);
         due.same("add in the state 11", x.add(4, 0, 8), 0);
-        due.same("nothing is left of the chip that stood there", told(x, 0), "4 0 8 0 0 0 15 0 0 1");
+        due.same("nothing is left of the chip that stood there", View.chip(x, 0), "4 0 8 0 0 0 15 0 0 1");
         due.same("the state stays", x.count(2), 11);
     }
 
@@ -106,12 +106,12 @@ public final class ChipsTest {
         due.same("take(MIN)", x.take(Integer.MIN_VALUE), -1);
         due.same("a refused take", View.of(x), before);
         due.same("take(1)", x.take(1), 0);
-        due.same("chip 0", told(x, 0), "2 11 1 0 0 0 1 0 0 8");
-        due.same("chip 1 was chip 2", told(x, 1), "4 33 3 5 0 1 1 0 0 8");
+        due.same("chip 0", View.chip(x, 0), "2 11 1 0 0 0 1 0 0 8");
+        due.same("chip 1 was chip 2", View.chip(x, 1), "4 33 3 5 0 1 1 0 0 8");
         due.same("chip(2, 0)", x.chip(2, 0), -1);
         due.same("count(0)", x.count(0), 2);
         due.same("take(0)", x.take(0), 11);
-        due.same("chip 0 was chip 1", told(x, 0), "4 33 3 5 0 1 1 0 0 8");
+        due.same("chip 0 was chip 1", View.chip(x, 0), "4 33 3 5 0 1 1 0 0 8");
         due.same("take(0) of the last one", x.take(0), 33);
         due.same("count(0)", x.count(0), 0);
         due.same("take(0) without chips", x.take(0), -1);
@@ -191,21 +191,13 @@ public final class ChipsTest {
         x.load(0, 0);
         x.exchange(0, 45);
         x.breakChip(0, true);
-        due.same("a driven chip", told(x, 0), "5 77 6 42 45 1 0 0 45 6");
+        due.same("a driven chip", View.chip(x, 0), "5 77 6 42 45 1 0 0 45 6");
         x.move(3);
         x.clock(0, 0);
-        due.same("captured pins", told(x, 0), "5 77 6 42 45 1 0 0 42 6");
+        due.same("captured pins", View.chip(x, 0), "5 77 6 42 45 1 0 0 42 6");
         x.move(10);
         x.clock(0, 0);
-        due.same("a captured code, behind a shift and an update on the way", told(x, 0), "5 77 6 42 53 1 0 1 53 6");
+        due.same("a captured code, behind a shift and an update on the way", View.chip(x, 0), "5 77 6 42 53 1 0 1 53 6");
         due.same("queries are not in the history", x.count(7), 4);
-    }
-
-    private static String told(ScanChain x, int place) {
-        StringBuilder all = new StringBuilder();
-        for (int what = 0; what <= 9; what++) {
-            all.append(what == 0 ? "" : " ").append(x.chip(place, what));
-        }
-        return all.toString();
     }
 }

@@ -1,6 +1,12 @@
+import java.util.HashMap;
+import java.util.Map;
+
 /** Compares answers with those that are due; a test ends with exit code 1 if one was wrong. */
 final class Due {
+    private static final int TOLD_OF_A_PART = 5;
+
     private final String test;
+    private final Map<String, Integer> wrongOfParts = new HashMap<>();
     private String part = "";
     private int checked = 0;
     private int wrong = 0;
@@ -12,6 +18,11 @@ final class Due {
     /** Names the promise that the checks after it are about. */
     void promise(String name) {
         part = name;
+    }
+
+    /** Names the sentence of the document that the checks after it are about; a sentence of a promise begins with its number. */
+    void sentence(String words) {
+        part = "'" + words + "'";
     }
 
     void same(String call, long got, long want) {
@@ -44,7 +55,8 @@ final class Due {
 
     private void tell(String what) {
         wrong++;
-        if (wrong <= 50) {
+        // One broken promise may make thousands of checks wrong, and must not hide what else is wrong.
+        if (wrongOfParts.merge(part, 1, Integer::sum) <= TOLD_OF_A_PART) {
             System.out.println(test + ", " + part + ": " + what);
         }
     }

@@ -15,17 +15,34 @@ final class View {
         for (int what = 0; what <= 6; what++) {
             view.append(' ').append(x.count(what));
         }
-        for (int place = 0; x.chip(place, 0) != ScanChain.NO_SUCH; place++) {
-            view.append(" | chip");
-            for (int what = 0; what <= 9; what++) {
-                view.append(' ').append(x.chip(place, what));
-            }
+        for (int place = 0; place <= 6 && x.chip(place, 0) != ScanChain.NO_SUCH; place++) {
+            view.append(" | chip ").append(chip(x, place));
         }
         view.append(" | found");
         for (int index = 0; index < x.count(6); index++) {
             view.append(' ').append(x.found(index));
         }
         view.append(" | peek ").append(x.peek(0)).append(x.peek(1)).append(" bypassed ").append(x.bypassed());
+        return view.toString();
+    }
+
+    /** All that is told of one chip. */
+    static String chip(ScanChain x, int place) {
+        StringBuilder told = new StringBuilder();
+        for (int what = 0; what <= 9; what++) {
+            told.append(what == 0 ? "" : " ").append(x.chip(place, what));
+        }
+        return told.toString();
+    }
+
+    /** Also what no query tells: the records of the history, the snapshot, the letters of the text. It uses the chain up. */
+    static String whole(ScanChain x) {
+        StringBuilder view = new StringBuilder(of(x));
+        for (int left = x.count(7); left > 0; left--) {
+            view.append("\n undo ").append(x.undo()).append(' ').append(system(x));
+        }
+        view.append("\n restore ").append(x.restore()).append(' ').append(system(x));
+        view.append("\n run ").append(x.run()).append(' ').append(system(x));
         return view.toString();
     }
 
