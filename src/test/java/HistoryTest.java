@@ -70,21 +70,21 @@ public final class HistoryTest {
     private static void fiveRecords() {
         due.promise("15 undo");
         ScanChain x = new ScanChain();
-        String[] views = new String[12];
-        for (int i = 0; i < 11; i++) {
+        String[] views = new String[8];
+        for (int i = 0; i < 8; i++) {
             views[i] = View.system(x);
             due.same("count(7)", x.count(7), Math.min(i, 4));
             act(x, i == 0 || i == 4 ? 0 : i % 2 == 0 ? 6 : 7);
         }
         for (int left = 3; left >= 0; left--) {
             due.same("undo()", x.undo(), left);
-            due.same("the state with " + left + " left", View.system(x), views[7 + left]);
+            due.same("the state with " + left + " left", View.system(x), views[4 + left]);
         }
         due.same("undo() of the dropped ones", x.undo(), -4);
         x.add(2, 3, 4);
         due.same("a new action behind undo", x.count(7), 1);
         due.same("undo()", x.undo(), 0);
-        due.same("the state", View.system(x), views[7]);
+        due.same("the state", View.system(x), views[4]);
     }
 
     private static void refusedCallsAreNotRecorded() {

@@ -1,12 +1,15 @@
 import java.util.Random;
 
 /**
- * Long runs of calls, each the same every time, on the program and on the model: all answers and all
- * that the queries tell must be the same, whatever the arguments.
+ * Runs of calls, each the same every time, on the program and on the model: all answers and all that
+ * the queries tell must be the same, whatever the arguments. A run stays within the 512 calls of an object.
  */
 public final class ModelTest {
-    private static final int RUNS = 120;
+    private static final int RUNS = 2400;
     private static final int CALLS = 512;
+    private static final int CALLS_TO_TELL = 9 + 6 * 12 + 5;
+    private static final int MOST_CALLS_OF_A_STEP = 40;
+    private static final int STEPS_BETWEEN_TELLING = 20;
     private static final int[] WILD = {Integer.MIN_VALUE, Integer.MIN_VALUE + 1, -65536, -101, -5, -4, -3, -2, -1,
         6, 7, 8, 9, 10, 16, 31, 32, 63, 64, 80, 127, 255, 256, 257, 65536, Integer.MAX_VALUE - 1, Integer.MAX_VALUE};
     private static final String ITEMS = "01ab????@@";
@@ -15,6 +18,8 @@ public final class ModelTest {
     private final ScanChain x = new ScanChain();
     private final Model model = new Model();
     private String call = "";
+    /** The calls of the program in this step. */
+    private int made;
 
     private ModelTest(int seed) {
         random = new Random(seed);
@@ -30,12 +35,22 @@ public final class ModelTest {
     }
 
     private void calls(Due due) {
-        for (int i = 0; i < CALLS; i++) {
-            String answers = oneCall();
-            String[] pair = answers.split(" ");
-            due.same("call " + i + ", " + call, pair[0], pair[1]);
-            due.same("what is told behind call " + i + ", " + call, told(), toldByModel());
+        int left = CALLS - CALLS_TO_TELL;
+        for (int step = 1; left >= MOST_CALLS_OF_A_STEP; step++) {
+            made = 1;
+            String[] pair = oneCall().split(" ");
+            due.same("step " + step + ", " + call, pair[0], pair[1]);
+            left -= made;
+            if (step % STEPS_BETWEEN_TELLING == 0 && left >= CALLS_TO_TELL) {
+                tell(due, step);
+                left -= CALLS_TO_TELL;
+            }
         }
+        tell(due, CALLS);
+    }
+
+    private void tell(Due due, int step) {
+        due.same("what is told behind step " + step + ", " + call, told(), toldByModel());
     }
 
     private String oneCall() {
@@ -59,9 +74,13 @@ public final class ModelTest {
         }
     }
 
-    /** A number from 0 to most, and at times any number. */
+    /** A number from 0 to most, at times the one above, and at times any number. */
     private int some(int most) {
-        return random.nextInt(25) == 0 ? WILD[random.nextInt(WILD.length)] : random.nextInt(most + 1);
+        switch (random.nextInt(50)) {
+            case 0: return most + 1;
+            case 1: return WILD[random.nextInt(WILD.length)];
+            default: return random.nextInt(most + 1);
+        }
     }
 
     private int place() {
@@ -134,14 +153,17 @@ public final class ModelTest {
 
     private String write() {
         int characters = random.nextInt(20);
+        made = 0;
         StringBuilder answers = new StringBuilder();
         StringBuilder due = new StringBuilder();
         for (int i = 0; i < characters; i++) {
             int character = random.nextInt(200) == 0 ? some(130) : ITEMS.charAt(random.nextInt(ITEMS.length()));
+            made++;
             answers.append(x.append(character)).append(',');
             due.append(model.append(character)).append(',');
             if (character == '@' && random.nextInt(100) > 0) {
                 int hex = "0123456789abcdef".charAt(random.nextInt(16));
+                made++;
                 answers.append(x.append(hex)).append(',');
                 due.append(model.append(hex)).append(',');
             }
@@ -179,6 +201,7 @@ public final class ModelTest {
         int a = some(16);
         int b = some(255);
         call = "queries with " + a + " and " + b;
+        made = 9;
         return x.chip(a, b) + "," + x.chip(0, a) + "," + x.count(a) + "," + x.found(a) + "," + x.found(b) + ","
                 + x.distance(a, b % 17) + "," + x.distance(b, a) + "," + x.peek(a) + "," + x.ifExchanged(a, b) + " "
                 + model.chip(a, b) + "," + model.chip(0, a) + "," + model.count(a) + "," + model.found(a) + "," + model.found(b) + ","
